@@ -214,7 +214,7 @@ public final class LadderCalls {
         if (!stands.has(stand) || !stands.has(other)) {
             return BAD;
         }
-        return stands.dearth(stand, other);
+        return stands.movingCost(stand, other);
     }
 
     public int work(int n, int stand) {
@@ -618,7 +618,7 @@ public final class LadderCalls {
         }
 
         /** What it costs to move one STAND to another one. */
-        int dearth(int stand, int other) {
+        int movingCost(int stand, int other) {
             int orders = ladders >= 3 ? 6 : ladders;
             int best = MOST_LADDERS * FAR;
             for (int order = 0; order < orders; order++) {
@@ -653,7 +653,7 @@ public final class LadderCalls {
         void start(int beginning) {
             known = 0;
             for (int slot = 0; slot < stands.slots && slot < MOST_STANDS; slot++) {
-                rows[0][slot] = stands.dearth(beginning, stands.number(slot));
+                rows[0][slot] = stands.movingCost(beginning, stands.number(slot));
             }
         }
 
