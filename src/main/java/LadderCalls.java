@@ -172,9 +172,6 @@ public final class LadderCalls {
     }
 
     public int told(int i, int what) {
-        if (i < 0 || i >= day.calls || what < 0 || what > 3) {
-            return BAD;
-        }
         return day.recorded(i, what);
     }
 
@@ -241,7 +238,7 @@ public final class LadderCalls {
         if (!day.isOn()) {
             return STATE;
         }
-        if (n < 0 || n > day.calls || i < 0 || i >= n) {
+        if (n > day.calls || i < 0 || i >= n) {
             return BAD;
         }
         planner.look(day, n);
@@ -668,7 +665,7 @@ public final class LadderCalls {
             heard[i] = place;
             known = i + 1;
             for (int slot = 0; slot < stands.slots && slot < MOST_STANDS; slot++) {
-                rows[i + 1][slot] = afterCall(i, stands.number(slot), place);
+                rows[i + 1][slot] = afterCall(rows[i], stands.number(slot), place);
             }
         }
 
@@ -676,12 +673,12 @@ public final class LadderCalls {
          * APART is a distance, so it is never dearer that all but one LADDER are already where
          * they shall stand, and that one serves the CALL and then goes to its place.
          */
-        private int afterCall(int i, int stand, int place) {
+        private int afterCall(int[] before, int stand, int place) {
             int best = FAR;
             for (int ladder = 0; ladder < stands.ladders; ladder++) {
                 int slot = stands.slot(withDigit(stand, ladder, place));
-                if (i >= 0 && i < rows.length && slot >= 0 && slot < MOST_STANDS) {
-                    best = Math.min(best, rows[i][slot] + town.gap(place, digit(stand, ladder)));
+                if (slot >= 0 && slot < before.length) {
+                    best = Math.min(best, before[slot] + town.gap(place, digit(stand, ladder)));
                 }
             }
             return best;
@@ -838,11 +835,6 @@ public final class LadderCalls {
             return sum;
         }
 
-        /** WORK, with the CALL that was heard last, of the STAND that a LADDER makes by going there. */
-        int workBySending(int ladder) {
-            return works.of(calls + 1, withDigit(standNow(), ladder, coming));
-        }
-
         int placeOf(int i) {
             return i >= 0 && i < calls && i < places.length ? places[i] : 0;
         }
@@ -938,8 +930,12 @@ public final class LadderCalls {
                 return even(day);
             }
             int best = 0;
-            for (int ladder = 1; ladder < day.ladders; ladder++) {
-                if (day.workBySending(ladder) + day.far(ladder) < day.workBySending(best) + day.far(best)) {
+            int least = 2 * FAR;
+            for (int ladder = 0; ladder < day.ladders; ladder++) {
+                int made = withDigit(day.standNow(), ladder, day.coming);
+                int sum = day.works.of(day.calls + 1, made) + day.far(ladder);
+                if (sum < least) {
+                    least = sum;
                     best = ladder;
                 }
             }

@@ -155,6 +155,7 @@ public final class PromiseTests {
         }
         LadderCalls y = town(6, 0, 1, 100, 1, 2, 100, 2, 3, 100, 3, 4, 100, 4, 5, 100);
         due("the longest way", y.apart(5, 0), 500);
+        due("the longest way back", y.apart(0, 5), 500);
         LadderCalls z = town(6, 0, 1, 7, 2, 3, 7, 4, 5, 7);
         due("three parts", z.apart(1, 2), NONE);
         z.road(3, 4, 1);
@@ -408,6 +409,12 @@ public final class PromiseTests {
         y.back();
         due("another one after back()", y.ask(2), 1);
         due("work is as it was", y.work(11, 1 + 8 * 2), 7);
+        LadderCalls z = seesaw(AHEAD);
+        z.ask(1);
+        z.call(0);
+        due("another call than the one asked for", z.least(1), 0);
+        z.ask(2);
+        due("asked for, but not come", z.least(2), BAD);
     }
 
     private void promise13Stand() {
@@ -537,6 +544,18 @@ public final class PromiseTests {
         due("one back", x.least(3), BAD);
         x.call(3);
         due("another one", x.least(3), 7);
+        x.back();
+        x.call(0);
+        due("still another one", x.least(3), 8);
+        x.begin(2, 3 + 8 * 3);
+        x.call(1);
+        due("the same call from another beginning", x.least(1), 6);
+        x.begin(2, 0 + 8 * 3);
+        x.call(1);
+        due("and from the first one", x.least(1), 3);
+        x.begin(1, 3);
+        x.call(1);
+        due("with one ladder", x.least(1), 6);
         LadderCalls y = seesaw(NEAR);
         called(y, 1, 0, 1, 0, 1, 0, 1, 0, 1, 0, 1, 0);
         int[] seesaw = {0, 1, 2, 3, 3, 3, 3, 3, 3, 3, 3, 3, 3};
@@ -562,6 +581,13 @@ public final class PromiseTests {
         called(z, 0, 1);
         due("the one that stands there", z.plan(1, 0), 1);
         due("not a dearer first one", z.plan(2, 0), 1);
+        LadderCalls both = town(3, 0, 1, 1, 0, 2, 1);
+        both.begin(2, 1 + 8 * 0);
+        called(both, 0, 2, 0);
+        due("a first one that is not dearer in the end", both.plan(3, 0), 0);
+        due("it goes on", both.plan(3, 1), 0);
+        due("the other one is still there", both.plan(3, 2), 1);
+        due("of two calls it is dearer", both.plan(2, 0), 1);
         z.begin(3, 1 + 8 * 1 + 64 * 1);
         called(z, 0, 2, 1, 0, 2);
         int[] three = {0, 1, 2, 0, 1};
@@ -653,6 +679,7 @@ public final class PromiseTests {
         for (int n = 0; n <= 8; n++) due("row of " + n, x.row(0, 3, n), 1);
         for (int i = 0; i < 8; i++) due("0 at first", x.item(0, 2, 3, i), 0);
         due("status", x.status(), 0);
+        x.put(0, 2, 3, 0, 11);
         x.put(0, 2, 3, 7, 12);
         String was = shelf(x);
         for (int b : new int[] {-1, 3, LOW, HIGH}) due("book " + b, x.row(b, 0, 1), BAD);
@@ -668,6 +695,7 @@ public final class PromiseTests {
         check.due(promise + ": a refused row() leaves all", shelf(x), was);
         due("a new one", x.row(0, 3, 8), 1);
         due("0 again", x.item(0, 2, 3, 7), 0);
+        due("the first one, too", x.item(0, 2, 3, 0), 0);
         due("a row of none", x.row(0, 1, 0), 1);
         due("has no number", x.put(0, 2, 1, 0, 1), INDEX);
         x.book(1, 0, 0);
