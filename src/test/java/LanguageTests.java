@@ -19,7 +19,8 @@ public final class LanguageTests {
         "int plan(int,int)", "int ratio()", "int worst(int,int)", "int book(int,int,int)", "int row(int,int,int)",
         "int put(int,int,int,int,long)", "long item(int,int,int,int)", "int roads(int)", "int calls(int,int)",
         "int about(int)", "long trace()", "int status()"};
-    private static final String[] CONSTANTS = {"BAD", "CAST", "FULL", "INDEX", "NONE", "NULL", "SIZE", "STATE"};
+    private static final String[] CONSTANTS = {"int BAD = -1", "int STATE = -2", "int FULL = -3", "int NONE = -9", "int NULL = -11",
+        "int INDEX = -12", "int CAST = -13", "int SIZE = -15"};
     private static final String[] FORBIDDEN = {"throw", "throws", "try", "catch", "synchronized", "assert", "import", "package",
         "protected", "volatile", "native", "transient", "Object", "System", "Random", "Thread", "Float", "Double", "\\w+Exact",
         "hashCode", "toString", "->", "::"};
@@ -35,7 +36,7 @@ public final class LanguageTests {
         return text.toString();
     }
 
-    private void face() {
+    private void face() throws IllegalAccessException {
         Class<?> c = LadderCalls.class;
         Set<String> face = new TreeSet<>();
         Set<String> names = new TreeSet<>();
@@ -49,7 +50,7 @@ public final class LanguageTests {
         Set<String> constants = new TreeSet<>();
         for (Field f : c.getDeclaredFields()) {
             if (Modifier.isPrivate(f.getModifiers())) continue;
-            constants.add(f.getName());
+            constants.add(f.getType().getSimpleName() + " " + f.getName() + " = " + f.get(null));
             check.due("constant " + f.getName(), Modifier.toString(f.getModifiers()), "public static final");
         }
         check.due("the constants", constants.toString(), new TreeSet<>(Set.of(CONSTANTS)).toString());
@@ -107,7 +108,7 @@ public final class LanguageTests {
         }
     }
 
-    public static void main(String[] args) throws IOException {
+    public static void main(String[] args) throws IOException, IllegalAccessException {
         LanguageTests tests = new LanguageTests();
         String source = Files.readString(Path.of("src/main/java/LadderCalls.java"), StandardCharsets.ISO_8859_1);
         tests.face();

@@ -1,7 +1,9 @@
 /** Long runs of calls, the same ones always, answered by the program and by the slow model. */
 public final class ModelTests {
-    private static final int RUNS = 1200;
+    private static final int RUNS = 1500;
+    /** With what is compared between them they stay below 512, all that an object is good for. */
     private static final int CALLS_OF_A_RUN = 150;
+    private static final int CALLS_BETWEEN = 8;
     private static final int[] ODD = {Integer.MIN_VALUE, -100, -2, -1, 6, 7, 8, 64, 512, 513, Integer.MAX_VALUE};
     private static final long[] ODD_LONGS = {4294967297L, 4294967296L, -4294967295L, 128, 256, 257, 65537, 32768,
             Long.MIN_VALUE, Long.MAX_VALUE, -1, 101, 2147483648L, -2147483649L};
@@ -186,8 +188,11 @@ public final class ModelTests {
                 case 5: case 6: if (shape == 0) anyBooks(); else anyLeast(); break;
                 default: anyBooks(); break;
             }
-            compareAll(step);
+            if (step % CALLS_BETWEEN == 0) {
+                compareAll(step);
+            }
         }
+        compareAll(CALLS_OF_A_RUN);
     }
 
     public static void main(String[] args) {
